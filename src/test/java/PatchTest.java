@@ -9,6 +9,7 @@ public final class PatchTest {
         wholeRow();
         refusals();
         patchesStay();
+        oneAfterTheOther();
         Due.end();
     }
 
@@ -114,5 +115,23 @@ public final class PatchTest {
         Due.patchIs(x, 2, 1, 32, 2, 1, 1);
         Due.due("saved(2, 1)", x.saved(2, 1), 4);
         Due.due("saved(1, 0)", x.saved(1, 0), 0);
+    }
+
+    /** Each answer is of the patch that is asked for, whichever was asked for before. */
+    private static void oneAfterTheOther() {
+        TwoSlots x = Due.with(Due.count(1, 5), Due.count(1, 6), Due.count(2, 5));
+        int[][] lengths = {{}, {6, 2, 2, 4}, {7, 4, 2, 4}, {6, 4, 2, 2}};
+        int[][] copies = {{}, {0, 5, 5, 4}, {0, 5, 6, 5}, {0, 4, 5, 5}};
+        for (int first = 0; first < 12; first++) {
+            for (int second = 0; second < 12; second++) {
+                x.patch(1 + first / 4, first % 4);
+                int version = 1 + second / 4;
+                int old = second % 4;
+                String pair = "(" + version + ", " + old + ")";
+                Due.due("patch" + pair, x.patch(version, old), lengths[version][old]);
+                x.patch(1 + first / 4, first % 4);
+                Due.due("saved" + pair, x.saved(version, old), copies[version][old]);
+            }
+        }
     }
 }
