@@ -1,222 +1,368 @@
-/** Promises 11 and 12: boot and confirm. */
+/** Promises 11 and 12: boot and confirm, and what the terms say of a BOOT. */
 public final class BootTest {
     public static void main(String[] args) {
         idleBoots();
+        readyIsTried();
         triesRunOut();
-        confirmKeeps();
-        confirmNotNow();
         fetchingGoesOn();
         installingBeginsAnew();
-        readySpareSpoiled();
-        tryingSpoiled();
-        backToSpoiledOne();
-        idleGoesToOther();
-        fetchingEndsWithChange();
-        deadWhenReady();
+        otherIsSoundWhenIdle();
+        otherIsSoundWhenFetching();
+        otherIsSoundWhenReady();
+        otherIsSoundWhenTrying();
+        otherIsSoundWhenTriesRunOut();
+        theEmptySlotIsSound();
+        spoiledSpareDoesNoHarm();
         deadWhenIdle();
         deadWhenFetching();
         deadWhenInstalling();
+        deadWhenReady();
+        deadWhenTrying();
         aliveAgain();
+        confirmKeeps();
+        confirmNotNow();
         Due.end();
     }
 
-    private static TwoSlots twoKept() {
-        TwoSlots x = Due.with(Due.count(1, 5), Due.count(11, 6), Due.count(3, 40));
-        Due.update(x, 1);
-        Due.update(x, 2);
-        Due.stateIs(x, "two kept", 0, 0, 0, 2, 1, 6, 5);
+    /** IDLE, slot 0 runs version 2, and slot 1 has version 1. */
+    private static Run twoKept() {
+        Run x = Run.with(Rows.count(1, 5), Rows.count(11, 6), Rows.count(3, 40));
+        x.update(1);
+        x.update(2);
+        x.stateIs(TwoSlots.IDLE, 0, 0, 2, 1, 6, 5);
         return x;
     }
 
-    private static void spoil(TwoSlots x, int slot) {
-        Due.due("damage(" + slot + ", 0, 255)", x.damage(slot, 0, 255), 0);
-        Due.due("sound(" + slot + ")", x.sound(slot), false);
+    /** As twoKept, but TRYING version 1 in slot 1 with so many tries left. */
+    private static Run tryingWith(int left) {
+        Run x = twoKept();
+        x.makeTrying(1);
+        for (int i = left; i < 2; i++) {
+            x.due(1, "boot");
+        }
+        x.stateIs(TwoSlots.TRYING, 1, left);
+        return x;
     }
 
     private static void idleBoots() {
-        TwoSlots x = twoKept();
+        Due.sentence("Promise 11: boot", "A BOOT: the slot that runs, or DEAD.");
+        Run x = twoKept();
         for (int i = 0; i < 4; i++) {
-            Due.due("boot() when IDLE", x.boot(), 0);
-            Due.stateIs(x, "IDLE", 0, 0, 0, 2, 1, 6, 5, 0, 0, 3, 0);
+            x.due(0, "boot");
+            x.stateIs(TwoSlots.IDLE, 0, 0, 2, 1, 6, 5, 0, 0, 3, 0);
         }
+        x.slotIs(0, Rows.count(11, 6));
+        x.slotIs(1, Rows.count(1, 5));
+    }
+
+    private static void readyIsTried() {
+        Due.sentence("Terms",
+                "READY: the SPARE runs, the other one is the SPARE; TRYING with 2 tries left.");
+        Run x = twoKept();
+        x.makeReady(3);
+        x.stateIs(TwoSlots.READY, 0, 0, 2, 3, 6, 40);
+        x.due(1, "boot");
+        x.stateIs(TwoSlots.TRYING, 1, 2, 2, 3, 6, 40, 0, 0, 3, 0);
+        x.slotIs(0, Rows.count(11, 6));
+        x.slotIs(1, Rows.count(3, 40));
+        // From slot 1 to slot 0, too.
+        x.due(0, "confirm");
+        x.makeReady(1);
+        x.due(0, "boot");
+        x.stateIs(TwoSlots.TRYING, 0, 2, 1, 3, 5, 40, 0, 0, 3, 0);
     }
 
     private static void triesRunOut() {
-        TwoSlots x = twoKept();
-        Due.makeTrying(x, 1);
-        for (int left = 2; left >= 0; left--) {
-            Due.stateIs(x, "TRYING", 4, 1, left, 2, 1, 6, 5, 0, 0);
-            Due.due("boot()", x.boot(), left == 0 ? 0 : 1);
-        }
-        Due.stateIs(x, "gone back", 0, 0, 0, 2, 1, 6, 5, 0, 0);
-        Due.due("boot()", x.boot(), 0);
-        Due.due("confirm()", x.confirm(), TwoSlots.NOT_NOW);
-    }
-
-    private static void confirmKeeps() {
-        for (int boots = 0; boots <= 2; boots++) {
-            TwoSlots x = twoKept();
-            Due.makeTrying(x, 1);
-            for (int i = 0; i < boots; i++) {
-                Due.due("boot()", x.boot(), 1);
-            }
-            Due.due("confirm()", x.confirm(), 0);
-            Due.stateIs(x, "kept", 0, 1, 0, 2, 1, 6, 5, 0, 0);
-            for (int i = 0; i < 4; i++) {
-                Due.due("boot() when kept", x.boot(), 1);
-            }
-        }
-    }
-
-    private static void confirmNotNow() {
-        TwoSlots x = Due.with(Due.count(1, 40));
-        Due.due("confirm() when IDLE", x.confirm(), TwoSlots.NOT_NOW);
-        x.offer(1);
-        Due.due("confirm() when FETCHING", x.confirm(), TwoSlots.NOT_NOW);
-        Due.due("state(0)", x.state(0), TwoSlots.FETCHING);
-        Due.fetch(x, 1);
-        Due.due("confirm() when INSTALLING", x.confirm(), TwoSlots.NOT_NOW);
-        Due.due("state(0)", x.state(0), TwoSlots.INSTALLING);
-        x.install(2);
-        Due.due("confirm() when READY", x.confirm(), TwoSlots.NOT_NOW);
-        Due.due("state(0)", x.state(0), TwoSlots.READY);
-        x.boot();
-        Due.due("confirm() when TRYING", x.confirm(), 0);
-        Due.due("confirm() again", x.confirm(), TwoSlots.NOT_NOW);
+        Due.sentence("Terms", "TRYING with 0 .. 2 tries left");
+        Run x = twoKept();
+        x.makeTrying(1);
+        x.stateIs(TwoSlots.TRYING, 1, 2, 2, 1, 6, 5, 0, 0);
+        x.due(1, "boot");
+        x.stateIs(TwoSlots.TRYING, 1, 1, 2, 1, 6, 5, 0, 0);
+        x.due(1, "boot");
+        x.stateIs(TwoSlots.TRYING, 1, 0, 2, 1, 6, 5, 0, 0);
+        Due.sentence("Terms", "TRYING, with tries left: one less; without: the slots change places,"
+                + " IDLE.");
+        x.due(0, "boot");
+        x.stateIs(TwoSlots.IDLE, 0, 0, 2, 1, 6, 5, 0, 0);
+        x.due(0, "boot");
+        x.stateIs(TwoSlots.IDLE, 0, 0, 2, 1, 6, 5, 0, 0);
+        x.refuses(TwoSlots.NOT_NOW, "confirm");
+        // The next update has all its tries again.
+        x.makeTrying(3);
+        x.due(2, "state", 2);
     }
 
     private static void fetchingGoesOn() {
-        TwoSlots x = Due.with(Due.count(1, 12));
-        x.offer(1);
-        x.block(1, 0);
-        Due.due("boot()", x.boot(), 0);
-        Due.stateIs(x, "FETCHING", 1, 0, 0, 0, 0, 0, 0, 1, 1, 1, 0);
-        Due.due("block(1, 0) again", x.block(1, 0), 2);
-        Due.due("block(0, 0)", x.block(0, 0), 1);
-        Due.due("block(2, 0)", x.block(2, 0), 0);
+        Due.sentence("Terms", "FETCHING goes on as it is behind a boot");
+        Run x = Run.with(Rows.count(1, 12));
+        x.due(3, "offer", 1);
+        x.due(0, "boot");
+        x.stateIs(TwoSlots.FETCHING, 0, 0, 0, 0, 0, 0, 1, 0, 1, 0);
+        x.due(2, "block", 1, 0);
+        x.due(0, "boot");
+        x.stateIs(TwoSlots.FETCHING, 0, 0, 0, 0, 0, 0, 1, 1, 1, 0);
+        x.due(2, "block", 1, 0);
+        x.due(1, "block", 0, 0);
+        x.due(0, "boot");
+        x.due(0, "block", 2, 0);
+        x.due(TwoSlots.READY, "install", 1);
+        x.slotIs(1, Rows.count(1, 12));
+        // The spare is left alone, too.
+        Run y = twoKept();
+        y.due(8, "offer", 3);
+        y.due(0, "boot");
+        y.slotIs(1, Rows.count(1, 5));
     }
 
     private static void installingBeginsAnew() {
-        TwoSlots x = Due.with(Due.count(1, 40));
-        Due.fetch(x, 1);
-        Due.due("install(1)", x.install(1), TwoSlots.INSTALLING);
-        Due.due("length", x.state(6), 31);
-        Due.due("boot()", x.boot(), 0);
-        Due.stateIs(x, "anew", 2, 0, 0, 0, 1, 0, 0, 1, 9, 1, 0);
-        Due.due("install(1)", x.install(1), TwoSlots.INSTALLING);
-        Due.due("install(1)", x.install(1), TwoSlots.READY);
-        Due.slotIs(x, 1, Due.count(1, 40));
+        Due.sentence("Terms", "INSTALLING begins anew, with the SPARE empty and the patch's first"
+                + " byte next.");
+        Run x = Run.with(Rows.count(1, 40));
+        x.fetch(1);
+        x.due(0, "boot");
+        x.stateIs(TwoSlots.INSTALLING, 0, 0, 0, 1, 0, 0, 1, 9, 1, 0);
+        x.due(TwoSlots.INSTALLING, "install", 1);
+        x.due(31, "state", 6);
+        x.due(0, "boot");
+        x.stateIs(TwoSlots.INSTALLING, 0, 0, 0, 1, 0, 0, 1, 9, 1, 0);
+        x.slotIs(1);
+        x.due(TwoSlots.INSTALLING, "install", 1);
+        x.slotIs(1, Rows.count(1, 31));
+        x.due(TwoSlots.READY, "install", 1);
+        x.slotIs(1, Rows.count(1, 40));
+        // What was spoiled before is gone with the row.
+        Run y = Run.with(Rows.count(1, 40));
+        y.fetch(1);
+        y.due(TwoSlots.INSTALLING, "install", 1);
+        y.spoil(1);
+        y.due(0, "boot");
+        y.due(TwoSlots.READY, "install", 2);
     }
 
-    private static void readySpareSpoiled() {
-        TwoSlots x = twoKept();
-        Due.makeReady(x, 1);
-        spoil(x, 1);
-        Due.due("state(0)", x.state(0), TwoSlots.READY);
-        Due.due("boot()", x.boot(), 0);
-        Due.stateIs(x, "back at once", 0, 0, 0, 2, 1, 6, 5, 0, 0);
+    private static void otherIsSoundSentence() {
+        Due.sentence("Terms", "Then, if the slot that runs is not SOUND: if the other one is, the"
+                + " slots change places, and the device is IDLE");
     }
 
-    private static void tryingSpoiled() {
-        TwoSlots x = twoKept();
-        Due.makeTrying(x, 1);
-        spoil(x, 1);
-        Due.due("boot()", x.boot(), 0);
-        Due.stateIs(x, "back", 0, 0, 0, 2, 1, 6, 5, 0, 0);
+    private static void otherIsSoundWhenIdle() {
+        otherIsSoundSentence();
+        Run x = twoKept();
+        x.spoil(0);
+        x.due(0, "state", 1);
+        x.due(1, "boot");
+        x.stateIs(TwoSlots.IDLE, 1, 0, 2, 1, 6, 5, 0, 0);
+        x.due(1, "boot");
+        // Mended, the other one does not come back by itself.
+        x.mend(0);
+        x.due(1, "boot");
+        x.spoil(1);
+        x.due(0, "boot");
     }
 
-    /** Without tries it goes back, finds that one spoiled, and stays where it was. */
-    private static void backToSpoiledOne() {
-        TwoSlots x = twoKept();
-        Due.makeTrying(x, 1);
-        spoil(x, 0);
-        Due.due("boot()", x.boot(), 1);
-        Due.due("boot()", x.boot(), 1);
-        Due.stateIs(x, "no tries", 4, 1, 0);
-        Due.due("boot()", x.boot(), 1);
-        Due.stateIs(x, "there and back", 0, 1, 0, 2, 1, 6, 5, 0, 0);
+    private static void otherIsSoundWhenFetching() {
+        otherIsSoundSentence();
+        Run x = twoKept();
+        x.due(8, "offer", 3);
+        x.due(7, "block", 0, 0);
+        x.spoil(0);
+        x.due(1, "boot");
+        x.stateIs(TwoSlots.IDLE, 1, 0, 2, 1, 6, 5, 0, 0, 3, 0);
+        x.refuses(TwoSlots.REFUSED, "block", 1, 0);
+        x.refuses(TwoSlots.NOT_NOW, "install", 1);
     }
 
-    private static void idleGoesToOther() {
-        TwoSlots x = twoKept();
-        spoil(x, 0);
-        Due.due("state(1) before", x.state(1), 0);
-        Due.due("boot()", x.boot(), 1);
-        Due.stateIs(x, "the other", 0, 1, 0, 2, 1, 6, 5, 0, 0);
-        Due.due("boot()", x.boot(), 1);
-        TwoSlots y = Due.with(Due.row(1, 2));
-        Due.update(y, 1);
-        spoil(y, 1);
-        // The empty slot with mark 0 is SOUND.
-        Due.due("boot() to the empty one", y.boot(), 0);
-        Due.due("offer(1) from 0", y.offer(1), 1);
+    private static void otherIsSoundWhenReady() {
+        otherIsSoundSentence();
+        Run x = twoKept();
+        x.makeReady(1);
+        x.spoil(1);
+        x.due(TwoSlots.READY, "state", 0);
+        x.due(0, "boot");
+        x.stateIs(TwoSlots.IDLE, 0, 0, 2, 1, 6, 5, 0, 0);
+        // The old one being spoiled does not keep the new one from being tried.
+        Run y = twoKept();
+        y.makeReady(1);
+        y.spoil(0);
+        y.due(1, "boot");
+        y.stateIs(TwoSlots.TRYING, 1, 2, 2, 1, 6, 5, 0, 0);
     }
 
-    private static void fetchingEndsWithChange() {
-        TwoSlots x = twoKept();
-        Due.due("offer(3)", x.offer(3) > 1, true);
-        Due.due("block(0, 0)", x.block(0, 0) > 0, true);
-        spoil(x, 0);
-        Due.due("boot()", x.boot(), 1);
-        Due.stateIs(x, "update dropped", 0, 1, 0, 2, 1, 6, 5, 0, 0, 3, 0);
-        Due.due("block(1, 0)", x.block(1, 0), TwoSlots.REFUSED);
-    }
-
-    private static void deadWhenReady() {
-        TwoSlots x = twoKept();
-        Due.makeReady(x, 1);
-        spoil(x, 0);
-        spoil(x, 1);
-        int[][] then = {{4, 1, 2}, {4, 1, 1}, {4, 1, 0}, {0, 0, 0}, {0, 0, 0}};
-        for (int[] numbers : then) {
-            Due.due("boot()", x.boot(), TwoSlots.DEAD);
-            Due.stateIs(x, "dead", numbers);
-            Due.due("state(7)", x.state(7), 0);
+    private static void otherIsSoundWhenTrying() {
+        otherIsSoundSentence();
+        for (int left = 2; left >= 0; left--) {
+            Run x = tryingWith(left);
+            x.spoil(1);
+            x.due(0, "boot");
+            x.stateIs(TwoSlots.IDLE, 0, 0, 2, 1, 6, 5, 0, 0);
         }
     }
 
+    /** Without tries it goes back, finds that one spoiled, and stays where it was. */
+    private static void otherIsSoundWhenTriesRunOut() {
+        otherIsSoundSentence();
+        Run x = tryingWith(0);
+        x.spoil(0);
+        x.due(1, "boot");
+        x.stateIs(TwoSlots.IDLE, 1, 0, 2, 1, 6, 5, 0, 0);
+    }
+
+    private static void theEmptySlotIsSound() {
+        otherIsSoundSentence();
+        Run x = Run.with(Rows.row(1, 2));
+        x.update(1);
+        x.spoil(1);
+        x.due(0, "boot");
+        x.stateIs(TwoSlots.IDLE, 0, 0, 0, 1, 0, 2);
+        x.due(1, "offer", 1);
+        x.due(0, "block", 0, 0);
+        x.due(TwoSlots.READY, "install", 1);
+        x.slotIs(1, 1, 2);
+    }
+
+    private static void spoiledSpareDoesNoHarm() {
+        otherIsSoundSentence();
+        Run x = twoKept();
+        x.spoil(1);
+        x.due(0, "boot");
+        x.stateIs(TwoSlots.IDLE, 0, 0, 2, 1, 6, 5);
+        x.due(8, "offer", 3);
+        x.due(0, "boot");
+        x.stateIs(TwoSlots.FETCHING, 0, 0, 2, 1, 6, 5, 3, 0);
+    }
+
+    private static void deadSentence() {
+        Due.sentence("Terms", "else it answers DEAD (and stays as it is).");
+    }
+
     private static void deadWhenIdle() {
-        TwoSlots x = twoKept();
-        spoil(x, 0);
-        spoil(x, 1);
-        Due.due("boot()", x.boot(), TwoSlots.DEAD);
-        Due.stateIs(x, "dead", 0, 0, 0, 2, 1, 6, 5, 0, 0);
-        Due.due("boot()", x.boot(), TwoSlots.DEAD);
+        deadSentence();
+        Run x = twoKept();
+        x.spoil(0);
+        x.spoil(1);
+        x.refuses(TwoSlots.DEAD, "boot");
+        x.stateIs(TwoSlots.IDLE, 0, 0, 2, 1, 6, 5, 0, 0);
+        x.refuses(TwoSlots.DEAD, "boot");
+        x.due(8, "offer", 3);
     }
 
     private static void deadWhenFetching() {
-        TwoSlots x = twoKept();
-        int blocks = x.offer(3);
-        x.block(2, 0);
-        spoil(x, 0);
-        spoil(x, 1);
-        Due.due("boot()", x.boot(), TwoSlots.DEAD);
-        Due.stateIs(x, "dead", 1, 0, 0, 2, 1, 6, 5, 3, 1);
-        Due.due("block(0, 0)", x.block(0, 0), blocks - 2);
+        deadSentence();
+        Run x = twoKept();
+        x.due(8, "offer", 3);
+        x.due(7, "block", 2, 0);
+        x.spoil(0);
+        x.spoil(1);
+        x.refuses(TwoSlots.DEAD, "boot");
+        x.stateIs(TwoSlots.FETCHING, 0, 0, 2, 1, 6, 5, 3, 1);
+        x.due(6, "block", 0, 0);
     }
 
-    /** The document's boot begins an installation anew; that stands if it answers DEAD, too. */
+    /** An empty or half spare is never SOUND, so a spoiled slot that runs is enough. */
     private static void deadWhenInstalling() {
-        TwoSlots x = twoKept();
-        Due.fetch(x, 3);
-        int blocks = x.state(8);
-        Due.due("install(1)", x.install(1), TwoSlots.INSTALLING);
-        spoil(x, 0);
-        Due.due("boot()", x.boot(), TwoSlots.DEAD);
-        Due.stateIs(x, "dead", 2, 0, 0, 2, 3, 6, 0, 3, blocks);
-        x.damage(0, 0, 11);
-        Due.due("install(20)", x.install(20), TwoSlots.READY);
-        Due.slotIs(x, 1, Due.count(3, 40));
+        Due.sentence("Terms", "INSTALLING begins anew, with the SPARE empty and the patch's first"
+                + " byte next.");
+        Run x = twoKept();
+        x.fetch(3);
+        x.spoil(0);
+        x.refuses(TwoSlots.DEAD, "boot");
+        x.due(TwoSlots.INSTALLING, "install", 1);
+        // The boot begins an installation anew; that stands if it answers DEAD, too.
+        x.due(TwoSlots.DEAD, "boot");
+        x.stateIs(TwoSlots.INSTALLING, 0, 0, 2, 3, 6, 0, 3, 8);
+        x.mend(0);
+        x.due(TwoSlots.READY, "install", 20);
+        x.slotIs(1, Rows.count(3, 40));
+    }
+
+    private static void deadWhenReady() {
+        deadSentence();
+        Run x = twoKept();
+        x.makeReady(1);
+        x.spoil(0);
+        x.spoil(1);
+        int[][] then = {{TwoSlots.TRYING, 1, 2}, {TwoSlots.TRYING, 1, 1}, {TwoSlots.TRYING, 1, 0},
+            {TwoSlots.IDLE, 0, 0}, {TwoSlots.IDLE, 0, 0}};
+        for (int[] numbers : then) {
+            x.due(TwoSlots.DEAD, "boot");
+            x.stateIs(Rows.join(numbers, Rows.row(2, 1, 6, 5, 0, 0)));
+        }
+    }
+
+    private static void deadWhenTrying() {
+        Due.sentence("Terms", "A call that answers a number below 0 changes nothing, but DEAD as"
+                + " said.");
+        for (int left = 2; left >= 0; left--) {
+            Run x = tryingWith(left);
+            x.spoil(0);
+            x.spoil(1);
+            x.due(TwoSlots.DEAD, "boot");
+            if (left > 0) {
+                x.stateIs(TwoSlots.TRYING, 1, left - 1, 2, 1, 6, 5, 0, 0);
+                x.due(0, "confirm");
+                x.stateIs(TwoSlots.IDLE, 1, 0);
+            } else {
+                x.stateIs(TwoSlots.IDLE, 0, 0, 2, 1, 6, 5, 0, 0);
+            }
+        }
     }
 
     private static void aliveAgain() {
-        TwoSlots x = twoKept();
-        spoil(x, 0);
-        spoil(x, 1);
-        Due.due("boot()", x.boot(), TwoSlots.DEAD);
-        x.damage(1, 0, 1);
-        Due.due("boot() with one mended", x.boot(), 1);
-        x.damage(0, 0, 11);
-        Due.due("boot() with both mended", x.boot(), 1);
+        deadSentence();
+        Run x = twoKept();
+        x.spoil(0);
+        x.spoil(1);
+        x.due(TwoSlots.DEAD, "boot");
+        x.mend(1);
+        x.due(1, "boot");
+        x.mend(0);
+        x.due(1, "boot");
+        Run y = twoKept();
+        y.spoil(0);
+        y.spoil(1);
+        y.due(TwoSlots.DEAD, "boot");
+        y.mend(0);
+        y.due(0, "boot");
+    }
+
+    private static void confirmKeeps() {
+        Due.sentence("Promise 12: confirm",
+                "The version that runs is kept: TRYING becomes IDLE: 0.");
+        for (int left = 2; left >= 0; left--) {
+            Run x = tryingWith(left);
+            x.due(0, "confirm");
+            x.stateIs(TwoSlots.IDLE, 1, 0, 2, 1, 6, 5, 0, 0);
+            for (int i = 0; i < 4; i++) {
+                x.due(1, "boot");
+            }
+        }
+        // It may be spoiled: confirm does not look.
+        Run y = tryingWith(2);
+        y.spoil(1);
+        y.due(0, "confirm");
+        y.stateIs(TwoSlots.IDLE, 1, 0);
+    }
+
+    private static void confirmNotNow() {
+        Due.sentence("Promise 12: confirm", "NOT_NOW in other states.");
+        Run x = Run.with(Rows.count(1, 40));
+        x.refuses(TwoSlots.NOT_NOW, "confirm");
+        x.due(9, "offer", 1);
+        x.refuses(TwoSlots.NOT_NOW, "confirm");
+        x.due(8, "block", 0, 0);
+        x.refuses(TwoSlots.NOT_NOW, "confirm");
+        x.fetch(1);
+        x.refuses(TwoSlots.NOT_NOW, "confirm");
+        x.due(TwoSlots.INSTALLING, "install", 1);
+        x.refuses(TwoSlots.NOT_NOW, "confirm");
+        x.due(TwoSlots.READY, "install", 1);
+        x.refuses(TwoSlots.NOT_NOW, "confirm");
+        x.due(1, "boot");
+        x.due(0, "confirm");
+        x.refuses(TwoSlots.NOT_NOW, "confirm");
+        Run back = tryingWith(2);
+        back.spoil(1);
+        back.due(0, "boot");
+        back.refuses(TwoSlots.NOT_NOW, "confirm");
     }
 }

@@ -1,20 +1,19 @@
 import java.util.Random;
 
-/** Long runs of calls on the class and on PlainModel side by side: both must answer the same. */
+/** Runs of 512 calls on the class and on PlainModel side by side: both must answer the same. */
 public final class ModelTest {
-    private static final int RUNS = 3000;
-    private static final int CALLS = 512;
+    private static final int RUNS = 6000;
+    /** What lookAtAll asks at most. */
+    private static final int LAST_LOOK = 13 + 2 * 41;
     private static final int[] ODD = {Integer.MIN_VALUE, -41, -2, -1, 0, 1, 2, 5, 6, 7, 9, 11, 20,
         21, 31, 32, 39, 40, 41, 42, 255, 256, 65536, Integer.MAX_VALUE};
     private static final int[] seen = new int[5];
     private static int dead = 0;
 
     private final Random random;
-    private final TwoSlots real = new TwoSlots();
+    private final Run real = new Run();
     private final PlainModel model = new PlainModel();
     private final int alphabet;
-    private int got;
-    private int want;
 
     private ModelTest(int seed) {
         random = new Random(seed);
@@ -24,45 +23,57 @@ public final class ModelTest {
     public static void main(String[] args) {
         boolean right = true;
         for (int seed = 1; seed <= RUNS && right; seed++) {
-            right = new ModelTest(seed).run(seed);
+            right = new ModelTest(seed).run();
         }
-        // A run that never gets somewhere proves nothing about it.
+        // Runs that never get somewhere prove nothing about it.
         for (int state = 0; state < seen.length; state++) {
-            Due.due("often in state " + state, seen[state] > 1000, true);
+            Due.due("often in state " + state, seen[state] > 10000, true);
         }
         Due.due("often DEAD", dead > 1000, true);
         Due.end();
     }
 
-    private boolean run(int seed) {
-        for (int i = 1; i <= CALLS; i++) {
-            String call = "run " + seed + ", call " + i + ": " + oneCall();
-            Due.due(call, got, want);
-            seen[real.state(0)]++;
-            dead += got == TwoSlots.DEAD ? 1 : 0;
-            if (got != want || !sameState(call)) {
-                return false;
-            }
+    private boolean run() {
+        // Some runs end early, so that the last look at all comes at other times, too.
+        int keep = LAST_LOOK + random.nextInt(200);
+        boolean right = true;
+        while (right && real.callsLeft() > keep) {
+            right = same(someCall()) && same(someLook()) && slotKeepsItsLength();
+            seen[model.state(0)]++;
         }
-        return true;
+        return right && lookAtAll();
     }
 
-    private boolean sameState(String call) {
-        boolean same = true;
-        for (int what = -1; what <= 11; what++) {
-            Due.due(call + ", then state(" + what + ")", real.state(what), model.state(what));
-            same &= real.state(what) == model.state(what);
+    private boolean same(Call call) {
+        int want = call.on(model);
+        int got = real.call(call);
+        dead += want == TwoSlots.DEAD ? 1 : 0;
+        if (got != want) {
+            Due.due(real + " (the last of these)", got, want);
+        }
+        return got == want;
+    }
+
+    private boolean lookAtAll() {
+        boolean right = true;
+        for (int what = 0; what <= 10; what++) {
+            right &= same(new Call("state", what));
         }
         for (int slot = 0; slot <= 1; slot++) {
-            Due.due(call + ", then sound(" + slot + ")", real.sound(slot), model.sound(slot));
-            same &= real.sound(slot) == model.sound(slot);
-            for (int i = 0; i < real.state(5 + slot); i++) {
-                String then = call + ", then slot(" + slot + ", " + i + ")";
-                Due.due(then, real.slot(slot, i), model.slot(slot, i));
-                same &= real.slot(slot, i) == model.slot(slot, i);
+            right &= same(new Call("sound", slot));
+            for (int i = 0; i <= model.state(5 + slot); i++) {
+                right &= same(new Call("slot", slot, i));
             }
         }
-        return same;
+        return right;
+    }
+
+    /** Why InsideTest is needed. */
+    private boolean slotKeepsItsLength() {
+        int running = model.state(1);
+        boolean right = model.state(5 + running) == model.lengthOf(model.state(3 + running));
+        Due.due("the slot that runs has its mark's length", right, true);
+        return right;
     }
 
     /** Mostly a number that fits, now and then one that does not. */
@@ -74,98 +85,80 @@ public final class ModelTest {
     }
 
     private int version() {
-        return number(1, Math.max(1, real.state(9)));
+        return number(1, Math.max(1, model.state(9)));
     }
 
-    private String oneCall() {
+    private Call someCall() {
         int dice = random.nextInt(100);
-        if (dice < 22) {
-            return real.state(10) < 40 && random.nextInt(3) > 0 ? feed() : reuse();
+        if (dice < 25) {
+            return write();
         }
-        if (dice < 26) {
-            return publish();
+        if (dice < 70) {
+            return onward();
         }
-        if (dice < 34) {
-            return patchCall();
-        }
-        if (dice < 40) {
-            int version = version();
-            return answer("offer(" + version + ")", real.offer(version), model.offer(version));
-        }
-        if (dice < 66) {
-            return block();
-        }
-        if (dice < 80) {
-            int n = number(1, random.nextInt(3) == 0 ? 20 : 2);
-            return answer("install(" + n + ")", real.install(n), model.install(n));
-        }
-        if (dice < 88) {
-            return answer("boot()", real.boot(), model.boot());
-        }
-        if (dice < 91) {
-            return answer("confirm()", real.confirm(), model.confirm());
-        }
-        return dice < 95 ? damage() : look();
-    }
-
-    private String answer(String call, int answered, int due) {
-        got = answered;
-        want = due;
-        return call;
-    }
-
-    private String feed() {
-        int b = number(0, alphabet - 1);
-        return answer("feed(" + b + ")", real.feed(b), model.feed(b));
-    }
-
-    private String reuse() {
-        int version = version();
-        int place = number(0, 20);
-        int n = number(1, 20);
-        String call = "reuse(" + version + ", " + place + ", " + n + ")";
-        return answer(call, real.reuse(version, place, n), model.reuse(version, place, n));
-    }
-
-    private String publish() {
-        return answer("publish()", real.publish(), model.publish());
-    }
-
-    private String patchCall() {
-        int version = version();
-        int old = number(0, real.state(9));
-        String pair = "(" + version + ", " + old + ")";
-        switch (random.nextInt(3)) {
+        switch (dice % 6) {
             case 0:
-                return answer("patch" + pair, real.patch(version, old), model.patch(version, old));
+                return new Call("offer", version());
             case 1:
-                return answer("saved" + pair, real.saved(version, old), model.saved(version, old));
+                return new Call("block", number(0, 8), number(0, 1));
+            case 2:
+                return new Call("install", number(1, 20));
+            case 3:
+                return new Call("boot");
+            case 4:
+                return new Call("confirm");
             default:
-                int i = number(0, 12);
-                return answer("byte " + i + " of patch" + pair, real.patchByte(version, old, i),
-                        model.patchByte(version, old, i));
+                return damage();
         }
     }
 
-    private String block() {
-        int i = number(0, 8);
-        int noise = random.nextInt(6) == 0 ? number(0, 255) : 0;
-        return answer("block(" + i + ", " + noise + ")", real.block(i, noise),
-                model.block(i, noise));
+    /** What brings the device to its next state, so that a run gets through some updates. */
+    private Call onward() {
+        switch (model.state(0)) {
+            case TwoSlots.IDLE:
+                return new Call("offer", version());
+            case TwoSlots.FETCHING:
+                return new Call("block", random.nextInt(model.blocks()), 0);
+            case TwoSlots.INSTALLING:
+                return new Call("install", number(1, 2));
+            case TwoSlots.READY:
+                return random.nextInt(3) == 0 ? damage() : new Call("boot");
+            default:
+                return new Call(random.nextInt(3) == 0 ? "confirm" : "boot");
+        }
+    }
+
+    private Call write() {
+        int dice = random.nextInt(8);
+        if (dice == 0) {
+            return new Call("publish");
+        }
+        if (dice < 4 && model.state(10) < 40) {
+            return new Call("feed", number(0, alphabet - 1));
+        }
+        return new Call("reuse", version(), number(0, 20), number(1, 20));
     }
 
     /** A byte of the small alphabet is likely the right one, so that slots become SOUND again. */
-    private String damage() {
-        int slot = number(0, 1);
-        int i = number(0, 2);
+    private Call damage() {
         int b = number(0, random.nextBoolean() ? 255 : alphabet - 1);
-        String call = "damage(" + slot + ", " + i + ", " + b + ")";
-        return answer(call, real.damage(slot, i, b), model.damage(slot, i, b));
+        return new Call("damage", number(0, 1), number(0, 2), b);
     }
 
-    private String look() {
-        int slot = number(0, 1);
-        int i = number(0, 40);
-        return answer("slot(" + slot + ", " + i + ")", real.slot(slot, i), model.slot(slot, i));
+    private Call someLook() {
+        switch (random.nextInt(6)) {
+            case 0:
+                return new Call("patch", version(), number(0, model.state(9)));
+            case 1:
+                return new Call("saved", version(), number(0, model.state(9)));
+            case 2:
+                return new Call("patchByte", version(), number(0, model.state(9)), number(0, 12));
+            case 3:
+                return new Call("slot", number(0, 1), number(0, 40));
+            case 4:
+                return new Call("sound", number(0, 1));
+            default:
+                return new Call("state", number(0, 10));
+        }
     }
 }

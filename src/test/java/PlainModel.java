@@ -38,6 +38,10 @@ final class PlainModel {
         return versions.size() - 1;
     }
 
+    int lengthOf(int version) {
+        return versions.get(version).size();
+    }
+
     int feed(int b) {
         if (!within(0, b, 255)) {
             return -1;
@@ -139,7 +143,7 @@ final class PlainModel {
         return List.of("FETCHING", "INSTALLING", "READY").contains(mode);
     }
 
-    private int blocks() {
+    int blocks() {
         return sent.size() / 5 + (sent.size() % 5 == 0 ? 0 : 1);
     }
 
