@@ -76,6 +76,9 @@ public final class PatchTest {
         Run y = Run.with(Rows.row(9, 0, 0, 0, 0), Rows.row(0, 0, 0, 0, 0, 0));
         y.patchIs(2, 1, 32, 1, 2, 0, 0);
         y.patchIs(1, 2, 1, 9, 32, 0);
+        // Nor does what would stand before its first byte.
+        Run z = Run.with(Rows.row(1, 2, 3), Rows.row(0, 1, 2, 3));
+        z.patchIs(2, 1, 4, 0, 1, 2, 3);
     }
 
     private static void theLeastPlace() {
