@@ -1,19 +1,26 @@
 import java.util.Random;
+import java.util.Set;
+import java.util.TreeSet;
 
 /** Runs of 512 calls on the class and on PlainModel side by side: both must answer the same. */
 public final class ModelTest {
     private static final int RUNS = 6000;
-    /** What lookAtAll asks at most. */
-    private static final int LAST_LOOK = 13 + 2 * 41;
+    /** What lookAtAll asks at most, and one, as the calls before it come in twos. */
+    private static final int LAST_LOOK = 13 + 2 * 41 + 1;
     private static final int[] ODD = {Integer.MIN_VALUE, -41, -2, -1, 0, 1, 2, 5, 6, 7, 9, 11, 20,
         21, 31, 32, 39, 40, 41, 42, 255, 256, 65536, Integer.MAX_VALUE};
-    private static final int[] seen = new int[5];
+    private static final int METHODS = 15;
+    private static final int STATES = 5;
+    private static final int[] seen = new int[STATES];
     private static int dead = 0;
+    private static int throughAll = 0;
 
     private final Random random;
     private final Run real = new Run();
     private final PlainModel model = new PlainModel();
     private final int alphabet;
+    private final Set<String> called = new TreeSet<>();
+    private final Set<Integer> gone = new TreeSet<>();
 
     private ModelTest(int seed) {
         random = new Random(seed);
@@ -30,21 +37,32 @@ public final class ModelTest {
             Due.due("often in state " + state, seen[state] > 10000, true);
         }
         Due.due("often DEAD", dead > 1000, true);
+        Due.due("most runs have every method and state", throughAll > RUNS / 2, true);
         Due.end();
     }
 
+    /** The look at all comes now early, now late; behind it the run goes on to its last call. */
     private boolean run() {
-        // Some runs end early, so that the last look at all comes at other times, too.
-        int keep = LAST_LOOK + random.nextInt(200);
+        boolean right = goOn(LAST_LOOK + random.nextInt(200)) && lookAtAll() && goOn(1);
+        right = right && (real.callsLeft() == 0 || same(someCall()));
+        boolean all = called.size() == METHODS && gone.size() == STATES;
+        throughAll += right && all && real.callsLeft() == 0 ? 1 : 0;
+        return right;
+    }
+
+    /** Until no more calls than these are left. */
+    private boolean goOn(int keep) {
         boolean right = true;
         while (right && real.callsLeft() > keep) {
             right = same(someCall()) && same(someLook()) && slotKeepsItsLength();
             seen[model.state(0)]++;
+            gone.add(model.state(0));
         }
-        return right && lookAtAll();
+        return right;
     }
 
     private boolean same(Call call) {
+        called.add(call.name());
         int want = call.on(model);
         int got = real.call(call);
         dead += want == TwoSlots.DEAD ? 1 : 0;

@@ -3,7 +3,6 @@ import java.nio.file.Files;
 import java.nio.file.Path;
 import java.util.Map;
 import java.util.Set;
-import java.util.TreeMap;
 import java.util.TreeSet;
 import java.util.regex.Matcher;
 import java.util.regex.Pattern;
@@ -11,18 +10,18 @@ import java.util.stream.Stream;
 
 /** The sentences that the tests name do stand in the document, and no heading is without one. */
 public final class QuotesTest {
-    private static final Path DOCUMENT = Path.of("../shared/DOC.md");
+    /** What the promises rest on, beside the face, which FaceTest looks at. */
+    private static final Set<String> REST = Set.of("What it is", "Terms");
     private static final Path TESTS = Path.of("src/test/java");
     private static final Pattern NAMED =
             Pattern.compile("Due\\.sentence\\(((?:[\\s,+]*\"[^\"]*\")+)\\);");
     private static final Pattern TEXT = Pattern.compile("\"([^\"]*)\"");
 
     public static void main(String[] args) throws IOException {
-        if (!Files.exists(DOCUMENT)) {
-            System.out.println("QuotesTest left out: no " + DOCUMENT);
+        if (!Document.isThere("QuotesTest")) {
             return;
         }
-        Map<String, String> sections = sections();
+        Map<String, String> sections = Document.sections();
         Set<String> named = new TreeSet<>();
         try (Stream<Path> files = Files.list(TESTS)) {
             for (Path file : files.filter(f -> f.toString().endsWith("Test.java")).toList()) {
@@ -30,20 +29,10 @@ public final class QuotesTest {
             }
         }
         for (String heading : sections.keySet()) {
-            boolean due = heading.startsWith("Promise ") || heading.equals("Terms");
+            boolean due = heading.startsWith("Promise ") || REST.contains(heading);
             Due.due("a test names '" + heading + "'", named.contains(heading) || !due, true);
         }
         Due.end();
-    }
-
-    /** The words under each heading, in one line. */
-    private static Map<String, String> sections() throws IOException {
-        Map<String, String> all = new TreeMap<>();
-        for (String part : Files.readString(DOCUMENT).split("(?m)^## ")) {
-            int end = part.indexOf('\n');
-            all.put(part.substring(0, end), part.substring(end).replaceAll("\\s+", " "));
-        }
-        return all;
     }
 
     private static void look(Path file, Map<String, String> sections, Set<String> named)

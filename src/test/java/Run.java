@@ -53,6 +53,20 @@ final class Run {
         return CALLS_MOST - calls.size();
     }
 
+    boolean hasCalled(String name) {
+        return calls.stream().anyMatch(call -> call.name().equals(name));
+    }
+
+    boolean hasAnswered(int answer, String name, int... numbers) {
+        String wanted = new Call(name, numbers).toString();
+        for (int i = 0; i < calls.size(); i++) {
+            if (answers.get(i) == answer && calls.get(i).toString().equals(wanted)) {
+                return true;
+            }
+        }
+        return false;
+    }
+
     /** Another object with the same calls behind it. */
     Run again() {
         Run other = new Run();
